@@ -14,6 +14,7 @@ public final class ReadingTest {
         edgesOfFloat();
         giantExponents();
         longTexts();
+        littleMoreThanOne();
         sidesOfSigns();
         noNumberTexts();
         halfwayDoubles();
@@ -169,6 +170,15 @@ public final class ReadingTest {
         is("9007199254740993." + zeros + "1", 0x4340000000000001L, 0x5A000000, 1, -1);
         is("9007199254740992." + "9".repeat(4000), 0x4340000000000000L, 0x5A000000, -1, -1);
         is("9".repeat(4000) + "e-4000", 0x3FF0000000000000L, 0x3F800000, 1, 1);
+    }
+
+    /** Whatever the length, the last digit is not lost. */
+    private static void littleMoreThanOne() {
+        for (int n = 20; n < 1300; n++) {
+            is("1." + "0".repeat(n) + "1", 0x3FF0000000000000L, 0x3F800000, -1, -1);
+            is("0x1." + "0".repeat(n) + "1p0", 0x3FF0000000000000L, 0x3F800000, -1, -1);
+            is("9007199254740993." + "0".repeat(n) + "1", 0x4340000000000001L, 0x5A000000, 1, -1);
+        }
     }
 
     private static void sidesOfSigns() {
