@@ -243,7 +243,7 @@ public final class ExactReader {
         }
 
         private void append(char c) {
-            if (c != END && length < row.length) {
+            if (c != END && length >= 0 && length < row.length) {
                 row[length] = c;
                 length++;
                 scanned = false;
@@ -512,7 +512,7 @@ public final class ExactReader {
         }
 
         private int wordAt(int index) {
-            return index >= 0 && index < size ? words[index] : 0;
+            return index >= 0 && index < size && index < words.length ? words[index] : 0;
         }
 
         private void begin() {
@@ -537,12 +537,12 @@ public final class ExactReader {
 
         private void multiplyAdd(int factor, int addend) {
             long carry = addend;
-            for (int i = 0; i < size; i++) {
+            for (int i = 0; i < size && i < words.length; i++) {
                 long sum = (words[i] & LOW_WORD) * factor + carry;
                 words[i] = (int) sum;
                 carry = sum >>> 32;
             }
-            if (carry != 0 && size < words.length) {
+            if (carry != 0 && size >= 0 && size < words.length) {
                 words[size] = (int) carry;
                 size++;
             }
@@ -572,13 +572,13 @@ public final class ExactReader {
                 return false;
             }
             long rest = 0;
-            for (int i = size - 1; i >= 0; i--) {
+            for (int i = Math.min(size, words.length) - 1; i >= 0; i--) {
                 long part = (rest << 32) | (words[i] & LOW_WORD);
                 long quotient = part / divisor;
                 words[i] = (int) quotient;
                 rest = part - quotient * divisor;
             }
-            while (size > 0 && words[size - 1] == 0) {
+            while (size > 0 && wordAt(size - 1) == 0) {
                 size--;
             }
             return rest != 0;

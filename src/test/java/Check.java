@@ -6,6 +6,7 @@ final class Check {
     static final int IAE = 2;
 
     private int wrong = 0;
+    private String sentence = "";
 
     static ExactReader reader(String text) {
         ExactReader reader = new ExactReader();
@@ -26,6 +27,11 @@ final class Check {
             all = all << 8 | text.charAt(i);
         }
         return all;
+    }
+
+    /** The sentence of the document that the checks from here on hold the class to. */
+    void sentence(String words) {
+        sentence = "\"" + words + "\": ";
     }
 
     void same(String call, long got, long due) {
@@ -49,7 +55,7 @@ final class Check {
     void fail(String what) {
         wrong++;
         if (wrong <= 50) {
-            System.out.println(what);
+            System.out.println(sentence + what);
         }
     }
 
